@@ -192,33 +192,11 @@ public final class InnerCircle {
     }
 
     public int wishFor(int k) {
-        if (!isRider(k)) return BAD;
-        int was = net.wish[k], most = -1, best = 0;
-        for (int wish = 0; wish <= HIGHEST; wish++) {
-            net.wish[k] = wish;
-            int worth = tryRest(TRAINS);
-            if (worth > most) {
-                most = worth;
-                best = wish;
-            }
-        }
-        net.wish[k] = was;
-        return best;
+        return isRider(k) ? bestFor(k, net.wish, HIGHEST) : BAD;
     }
 
     public int homeFor(int k) {
-        if (!isRider(k)) return BAD;
-        int was = net.home[k], most = -1, best = 0;
-        for (int stop = 0; stop < STOPS; stop++) {
-            net.home[k] = stop;
-            int worth = tryRest(TRAINS);
-            if (worth > most) {
-                most = worth;
-                best = stop;
-            }
-        }
-        net.home[k] = was;
-        return best;
+        return isRider(k) ? bestFor(k, net.home, STOPS - 1) : BAD;
     }
 
     // ---- who is lost, how soon one may be somewhere, carriages, the press
@@ -602,6 +580,21 @@ public final class InnerCircle {
         int worth = 0;
         for (int i = 0; i < n && !net.isOver(trial); i++) worth += net.goBy(trial, net.actOfRest(trial));
         return worth;
+    }
+
+    /** The least of 0 to highest that makes THE REST WORTH most where it stands for a RIDER in a row of the net. */
+    private int bestFor(int k, int[] row, int highest) {
+        int was = row[k], most = -1, best = 0;
+        for (int v = 0; v <= highest; v++) {
+            row[k] = v;
+            int worth = tryRest(TRAINS);
+            if (worth > most) {
+                most = worth;
+                best = v;
+            }
+        }
+        row[k] = was;
+        return best;
     }
 
     private int carriageOf(int k) {

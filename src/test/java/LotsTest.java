@@ -180,6 +180,22 @@ final class LotsTest {
         due.is("41 times", x.times(41, 0), -1);
         due.is("v -1", x.times(1, -1), -1);
         due.is("v 1000", x.times(1, 1000), -1);
+        x.ends(16);
+        Due.rules(x, "rider if train<15 stay;");
+        for (int f = 0; f < 6; f++) x.home(f, 0, 9);
+        int homes = 0, some = 0;
+        // a regular is AT HOME behind TRAINS 5 and 11, and PAYS 15 AT 3 ahead of the last one, if it is told then
+        x.remake(0, REGULAR);
+        z = 1;
+        for (int i = 0; i < 40; i++) {
+            for (int train = 0; train < 16; train++) z = nextOf(z);
+            some += (z >>> 16) % 2;
+            homes++;
+        }
+        due.is("the last of 16 TRAINS", x.times(40, 17), some);
+        due.is("the HOMES alone", x.times(40, 2), homes);
+        due.is("more there is not", x.times(40, 18), 0);
+        x.ends(1);
         x.train();
         due.is("OVER: WORTH 0 each", x.times(7, 0), 7);
         due.is("OVER: none is 1", x.times(7, 1), 0);

@@ -15,6 +15,7 @@ final class TrainsTest {
         reach();
         carriages();
         press();
+        allSixteen();
         due.end();
     }
 
@@ -289,6 +290,33 @@ final class TrainsTest {
         due.is("the longest chain", y.carriages(0), 63);
         due.is("is one", y.carriages(-1), 1);
         due.is("of 6 still", y.carriages(6), -1);
+    }
+
+    private static void allSixteen() {
+        InnerCircle x = new InnerCircle();
+        x.ends(16);
+        for (int train = 0; train < 16; train++) x.crowd(train, 0);
+        x.rider(REGULAR, 34, 9, 0);
+        Due.rules(x, "rider if train=15 exit; rider stay;");
+        due.promise(16);
+        due.is("OUT behind the last TRAIN", x.when(0), 15);
+        due.promise(15);
+        // AT HOME behind TRAINS 5 and 11; it exits AT 3, 49 deep: 9 + 2 - 7
+        due.is("16 TRAINS", x.on(16), 6);
+        due.is("15 TRAINS", x.on(15), 2);
+        due.promise(22);
+        due.is("behind 15", x.press(15, 0), 3);
+        due.is("behind 16", x.press(16, 1), 0);
+        due.promise(19);
+        due.is("not lost by 16, for it is OUT", x.lost(0), -3);
+        Due.rules(x, "rider stay;");
+        due.is("lost as it is 16", x.lost(0), 16);
+        x.change(0, 1, 35);
+        due.is("lost as it is 15", x.lost(0), 15);
+        for (int i = 0; i < 16; i++) x.train();
+        due.is("lost, and OVER", x.lost(0), 16);
+        due.promise(14);
+        due.is("there is no TRAIN 16", x.train(), -4);
     }
 
     private static void press() {
