@@ -41,4 +41,27 @@ final class Due {
         feed(x, text);
         return x.rules();
     }
+
+    /** A net without RUSH and LAMPS. */
+    static InnerCircle still(int end) {
+        InnerCircle x = new InnerCircle();
+        x.ends(end);
+        for (int train = 0; train < 16; train++) x.crowd(train, 0);
+        return x;
+    }
+
+    /** Two ladies AT HOME without RUSH: 0 PAYS 9 + 1, 1 PAYS 9 + 4. */
+    static InnerCircle ladies() {
+        InnerCircle x = still(16);
+        x.rider(2, 0, 1, 0);
+        x.rider(2, 0, 4, 1);
+        return x;
+    }
+
+    /** THE TRACE as a text. */
+    static String bodies(InnerCircle x) {
+        StringBuilder text = new StringBuilder();
+        for (int i = 0; i < x.many(6); i++) text.append(i == 0 ? "" : " ").append(x.trace(i));
+        return text.toString();
+    }
 }

@@ -247,12 +247,6 @@ final class HostTest {
         due.is("no lady any more", x.taken(0, LADY), -13);
     }
 
-    private static String bodies(InnerCircle x) {
-        StringBuilder text = new StringBuilder();
-        for (int i = 0; i < x.many(6); i++) text.append(i == 0 ? "" : " ").append(x.trace(i));
-        return text.toString();
-    }
-
     private static void act(int kind, int act, int x, int want, String bodies) {
         // RIDER 2 with HOME 1: n 2, a 1, so x leaves by 5
         InnerCircle circle = new InnerCircle();
@@ -261,7 +255,7 @@ final class HostTest {
         due.promise(48);
         due.is("act " + act + " of kind " + kind + " with " + x, circle.act(1, act, x), want);
         due.promise(49);
-        due.is("TRACE is " + bodies(circle) + ", due is " + bodies, bodies(circle).equals(bodies) ? 1 : 0, 1);
+        due.is("TRACE is " + Due.bodies(circle) + ", due is " + bodies, Due.bodies(circle).equals(bodies) ? 1 : 0, 1);
     }
 
     private static void act() {
@@ -314,9 +308,9 @@ final class HostTest {
             x.rider(kinds[i], 0, 0, 4);
             x.shelf(0, 0, 0);
             due.is("rounds of " + kinds[i], x.act(0, 2, 9), -15);
-            due.is("bodies " + bodies(x), bodies(x).equals(rounds[i]) ? 1 : 0, 1);
+            due.is("bodies " + Due.bodies(x), Due.bodies(x).equals(rounds[i]) ? 1 : 0, 1);
             due.is("rises of " + kinds[i], x.act(0, 3, 9), -15);
-            due.is("bodies " + bodies(x), bodies(x).equals(rises[i]) ? 1 : 0, 1);
+            due.is("bodies " + Due.bodies(x), Due.bodies(x).equals(rises[i]) ? 1 : 0, 1);
             due.is("stands of " + kinds[i], x.act(0, 0, 0) >= 0 ? 1 : 0, 1);
             // a 5: what x leaves by -1 is 0
             x.change(0, 3, 5);

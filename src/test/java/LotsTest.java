@@ -1,6 +1,6 @@
 /** Promises 30 to 36: strangers, lots. */
 final class LotsTest {
-    private static final int REGULAR = 1, LADY = 2, FATHER = 3, CLERK = 4, BARRIER = 5;
+    private static final int REGULAR = 1, LADY = 2, FATHER = 3, BARRIER = 5;
     private static final Due due = new Due("LotsTest");
 
     public static void main(String[] args) {

@@ -16,18 +16,9 @@ final class PlansTest {
         due.end();
     }
 
-    /** Two ladies AT HOME without RUSH: 0 PAYS 9 + 1, 1 PAYS 9 + 4. */
-    private static InnerCircle ladies() {
-        InnerCircle x = new InnerCircle();
-        for (int train = 0; train < 16; train++) x.crowd(train, 0);
-        x.rider(LADY, 0, 1, 0);
-        x.rider(LADY, 0, 4, 1);
-        return x;
-    }
-
     private static void best() {
         due.promise(23);
-        InnerCircle x = ladies();
+        InnerCircle x = Due.ladies();
         due.is("0", x.best(0), 0);
         // the one told first PAYS, the other one is AT HOME then and exits later
         due.is("1: lady 1 exits, 0 is AT HOME", x.best(1), 14);
@@ -44,7 +35,7 @@ final class PlansTest {
 
     private static void ith() {
         due.promise(24);
-        InnerCircle x = ladies();
+        InnerCircle x = Due.ladies();
         due.is("1, 0", x.ith(1, 0), 2);
         // 10 + 1 and 13, or 13 + 1 and 10: 24 both; the lesser ACT goes first
         due.is("2, 0", x.ith(2, 0), 1);
@@ -64,7 +55,7 @@ final class PlansTest {
 
     private static void ways() {
         due.promise(25);
-        InnerCircle x = ladies();
+        InnerCircle x = Due.ladies();
         due.is("0", x.ways(0), 1);
         due.is("1", x.ways(1), 1);
         due.is("2", x.ways(2), 2);
@@ -82,7 +73,7 @@ final class PlansTest {
         x.train();
         due.is("OVER", x.ways(4), 1);
         due.is("nobody", new InnerCircle().ways(4), 1);
-        InnerCircle y = ladies();
+        InnerCircle y = Due.ladies();
         y.change(0, 4, 1);
         // AT HOME behind TRAIN 0 she is WORTH 1 more, so she is told ahead of TRAIN 1: behind ACT 0, or that of who is OUT
         due.is("she exits second", y.ways(2), 2);
@@ -93,7 +84,7 @@ final class PlansTest {
 
     private static void ticket() {
         due.promise(26);
-        InnerCircle x = ladies();
+        InnerCircle x = Due.ladies();
         due.is("none of them", x.ticket(4, 0), 0);
         due.is("one", x.ticket(1, 1), 1);
         due.is("the other", x.ticket(1, 2), 1);
@@ -123,7 +114,7 @@ final class PlansTest {
 
     private static void bars() {
         due.promise(27);
-        InnerCircle x = ladies();
+        InnerCircle x = Due.ladies();
         x.rider(CLERK, 99, 0, 2);
         due.is("each by itself", x.bars(1, 3), -3);
         due.is("nobody by 0", x.bars(0, 7), 0);
@@ -141,7 +132,7 @@ final class PlansTest {
 
     private static void game() {
         due.promise(28);
-        InnerCircle x = ladies();
+        InnerCircle x = Due.ladies();
         due.is("1 is the best one", x.game(1), 14);
         // behind 13 + 1 the other one lets lady 0 drift away: 0; behind 10 + 1 likewise
         due.is("2", x.game(2), 14);
@@ -164,7 +155,7 @@ final class PlansTest {
 
     private static void play() {
         due.promise(29);
-        InnerCircle x = ladies();
+        InnerCircle x = Due.ladies();
         due.is("1", x.play(1), 2);
         due.is("2", x.play(2), 2);
         due.is("0", x.play(0), -1);
@@ -183,7 +174,7 @@ final class PlansTest {
 
     private static void rows() {
         due.promise(37);
-        InnerCircle x = ladies();
+        InnerCircle x = Due.ladies();
         due.is("prove 0", x.prove(0), 0);
         due.is("no ROW", x.row(0, 0), -9);
         due.is("prove 2", x.prove(2), 2);
@@ -219,7 +210,7 @@ final class PlansTest {
 
     private static void judge() {
         due.promise(40);
-        InnerCircle x = ladies();
+        InnerCircle x = Due.ladies();
         due.is("no ROWS", x.judge(), 0);
         x.prove(3);
         due.is("all right", x.judge(), 0);
